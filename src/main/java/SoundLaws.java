@@ -564,11 +564,15 @@ public final class SoundLaws {
             return FIRST_PAIR[tongues] + 2 * (node - tongues);
         }
 
+        /* Nearly all time is spent here, so the costs are read from their row without a call. */
         private int leastBelow(int node, int above) {
-            if (node < tongues) return costOf(above, sounds[node]);
-            int found = costOf(above, 0) + least[node * SOUNDS];
+            int costs = above * SOUNDS;
+            if (node < tongues) return COSTS[costs + sounds[node]];
+            int from = node * SOUNDS;
+            int found = COSTS[costs] + least[from];
             for (int sound = 1; sound < SOUNDS; sound++) {
-                found = Math.min(found, costOf(above, sound) + least[node * SOUNDS + sound]);
+                int changes = COSTS[costs + sound] + least[from + sound];
+                if (changes < found) found = changes;
             }
             return found;
         }

@@ -25,6 +25,7 @@ public final class PromisesTest {
         line();
         cost();
         put();
+        answersFollowTheSets();
         copy();
         take();
         takeAndSeen();
@@ -166,6 +167,11 @@ public final class PromisesTest {
         due.be("5 one set", x.sets(), 1);
         due.be("5 four tongues", x.count(1), 4);
         due.be("5 others are gone", x.set(1, 0), UNKNOWN);
+        Due.write(x, "w./.");
+        due.be("5 silent words", x.sets(), STATE);
+        x.blank();
+        Due.write(x, "wa/e");
+        due.be("5 others behind them", x.sets(), 1);
     }
 
     private static void setsRefused() {
@@ -295,6 +301,7 @@ public final class PromisesTest {
         nodes("wp/p/a/a", 0, 4, 4, 1, 1, 4, 1, 1);
         nodes("wpa/pe/ao/ap", 1, 1, 2, 3, 4, 1, 1, 1);
         nodes("w.a/.a/pa/pa", 0, 0, 0, 4, 4, 0, 4, 0);
+        nodes("w.a/pa/aa/aa", 0, 0, 4, 1, 1, 1, 1, 1);
         SoundLaws x = Due.read("cpa/ka,lpa/ka,npa/ka,wpat/kat");
         due.be("8 a cry has its words", x.sound(0, 1, 0), 6);
         due.be("8 of a cry nothing is rebuilt", x.sound(0, 2, 0), NONE);
@@ -359,6 +366,7 @@ public final class PromisesTest {
         SoundLaws silence = Due.read("wp.a/p.a,wp.o/peo,w.ta/.ta");
         law(silence, 1, 0, 0, 0, 1, 1);
         law(silence, 1, 0, 1, 0, 1, 0);
+        law(silence, 0, 0, 0, 0, 2, 0);
         SoundLaws apart = Due.read("wppp/ptt");
         law(apart, 0, 4, 1, 4, 1, 0);
         law(apart, 1, 4, 0, 5, 2, 0);
@@ -459,6 +467,10 @@ public final class PromisesTest {
         due.be("14 alone, of length 1", x.put(1, 0, 0, 0), STATE);
         due.be("14 in a loan", x.put(1, 0, 0, 8), 4);
         due.be("14 the same again", x.put(1, 0, 0, 8), 8);
+        due.be("14 behind the first place", x.put(0, 0, 1, 3), 1);
+        due.be("14 it is o", x.sound(0, 0, 1), 3);
+        due.be("14 the first stays", x.sound(0, 0, 0), 4);
+        due.be("14 none behind a sound", x.put(0, 0, 1, 0), 3);
         due.be("14 sound 9", x.put(0, 0, 0, 9), OUTSIDE);
         due.be("14 sound -1", x.put(0, 0, 0, -1), OUTSIDE);
         due.be("14 place 2", x.put(0, 0, 2, 1), UNKNOWN);
@@ -467,6 +479,41 @@ public final class PromisesTest {
         due.be("14 set 2", x.put(2, 0, 0, 1), UNKNOWN);
         due.be("14 unknown ahead of outside", x.put(0, 0, 2, 9), UNKNOWN);
         due.be("14 high", x.put(HIGH, HIGH, HIGH, HIGH), UNKNOWN);
+        SoundLaws four = Due.read("wp.../pata");
+        due.be("14 alone, of length 4", four.put(0, 0, 0, 0), STATE);
+        due.be("14 of the other word", four.put(0, 1, 3, 0), 1);
+    }
+
+    /* What was answered once must not be answered again when the sets are others. */
+    private static void answersFollowTheSets() {
+        SoundLaws x = Due.read("wp/f,wp/p,wp/p");
+        due.be("borrowed at first", x.count(6), 1);
+        due.be("exceptions at first", x.count(5), 1);
+        due.be("changes at first", x.count(3), 1);
+        x.put(0, 1, 0, 4);
+        due.be("borrowed then", x.count(6), 0);
+        due.be("exceptions then", x.count(5), 0);
+        due.be("changes then", x.count(3), 0);
+        due.be("strange then", x.set(0, 3), 0);
+        x.put(0, 1, 0, 5);
+        due.be("strange again", x.set(0, 3), 1);
+        x.change(0, 3);
+        due.be("a loan has none strange", x.set(0, 3), 0);
+        due.be("a loan is not borrowed", x.set(0, 4), 0);
+        x.change(0, 0);
+        due.be("strange once more", x.strange(0, 1), 1);
+        x.image();
+        x.take(0);
+        due.be("taken", x.count(5), 0);
+        x.restore();
+        due.be("restored", x.count(5), 1);
+        x.copy(0);
+        due.be("copied", x.count(5), 2);
+        x.swap(0, 1);
+        due.be("swapped", x.law(0, 4, 1, 2), 2);
+        Due.write(x, "wk/k");
+        x.sets();
+        due.be("read anew", x.count(5), 0);
     }
 
     private static void copy() {
@@ -597,6 +644,13 @@ public final class PromisesTest {
         due.be("21 the seed behind 4 draws", x.drawn(1, 0, 2), 1449466924L);
         due.be("21 changes", x.drawn(40, 1111, 0), 156);
         due.be("21 changes of few", x.drawn(31, 19, 0), 127);
+        due.be("21 . o s p", x.drawn(1, 0, 0), 6);
+        due.be("21 f e k f", x.drawn(1, 2, 0), 3);
+        due.be("21 f k k t", x.drawn(1, 3, 0), 2);
+        due.be("21 s t t o", x.drawn(1, 7, 0), 3);
+        due.be("21 four silences", x.drawn(1, 1346, 0), 0);
+        due.be("21 four silences are their own old word", x.drawn(1, 1346, 1), 0);
+        due.be("21 f f f f", x.drawn(1, 1350, 1), 0);
         due.be("21 no old word that is none of the four", x.drawn(40, 1111, 1), 0);
         due.be("21 the least times", x.drawn(1, 2, 1), 0);
         due.be("21 the greatest seed", x.drawn(1, HIGH, 2), draws(HIGH, 4));
