@@ -175,7 +175,7 @@ public final class SoundLaws {
         if (!isSet(set)) return UNKNOWN;
         if (stock.size == 1) return STATE;
         stock.remove(set);
-        sightings.removeSet(set);
+        sightings.loseSet(set);
         studied = false;
         return stock.size;
     }
@@ -798,13 +798,11 @@ public final class SoundLaws {
             for (int at = 0; at < other.size; at++) add(other.sets[at], other.questions[at], other.answers[at]);
         }
 
-        /* What was seen of a set goes with it; what was seen of those behind it keeps to them. */
-        void removeSet(int set) {
-            int before = size;
-            size = 0;
-            for (int at = 0; at < before; at++) {
-                int of = sets[at];
-                if (of != set) add(of > set ? of - 1 : of, questions[at], answers[at]);
+        /* What was seen of a taken set is seen still, though of none that there is; of those behind it, it keeps to them. */
+        void loseSet(int set) {
+            for (int at = 0; at < size; at++) {
+                if (sets[at] == set) sets[at] = NONE;
+                else if (sets[at] > set) sets[at]--;
             }
         }
 

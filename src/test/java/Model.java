@@ -16,6 +16,9 @@ final class Model {
     private static final Pattern GRAMMAR = grammar();
     private static final Map<String, String> REBUILT = new HashMap<>();
 
+    /* The number of a set that has been taken out. */
+    private static final int NOWHERE = 1000;
+
     private record Seen(int set, int what, boolean could) { }
 
     private String page = "";
@@ -340,8 +343,8 @@ final class Model {
         sets.remove(set);
         List<Seen> left = new ArrayList<>();
         for (Seen one : seen) {
-            if (one.set < set) left.add(one);
-            if (one.set > set) left.add(new Seen(one.set - 1, one.what, one.could));
+            int now = one.set == set ? NOWHERE : one.set > set ? one.set - 1 : one.set;
+            left.add(new Seen(now, one.what, one.could));
         }
         seen = left;
         return sets.size();

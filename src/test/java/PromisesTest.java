@@ -29,6 +29,7 @@ public final class PromisesTest {
         copy();
         take();
         takeAndSeen();
+        seeAfterTake();
         change();
         swap();
         see();
@@ -565,11 +566,34 @@ public final class PromisesTest {
         x.see(2, 2, true);
         x.see(1, 2, false);
         x.take(1);
-        due.be("16 what was seen of it is gone", x.count(7), 2);
+        due.be("16 what was seen is seen still", x.count(7), 4);
         due.be("16 of those ahead it stays", x.set(0, 5), 17);
         due.be("16 of those behind it stays theirs", x.set(1, 5), 16);
         x.copy(0);
         due.be("16 of a new one nothing is seen", x.set(2, 5), 31);
+        x.take(0);
+        due.be("16 what was seen of a taken one is not of the next", x.set(0, 5), 16);
+        x.image();
+        due.be("19 the fifth", x.see(0, 1, false), 5);
+        due.be("19 the sixth", x.see(1, 1, false), 6);
+        due.be("19 those of taken sets fill it, too", x.see(1, 1, false), FULL);
+        x.restore();
+        due.be("23 those of taken sets are kept", x.count(7), 4);
+        due.be("20 and forgotten", x.forget(), 4);
+        due.be("20 none is left", x.see(0, 0, true), 1);
+    }
+
+    private static void seeAfterTake() {
+        SoundLaws x = Due.read("lpat/pat/pat,wkat/kat/kas,dtak/tak/tas");
+        due.be("19 one ahead of take", x.see(0, 0, false), 1);
+        due.be("16 two are left", x.take(0), 2);
+        due.be("19 another behind it", x.see(0, 0, false), 2);
+        due.be("19 of the set as it is now", x.set(0, 5), 14);
+        due.be("16 a refused take", x.take(2), UNKNOWN);
+        due.be("16 leaves what is seen", x.set(0, 5), 14);
+        due.be("16 one is left", x.take(1), 1);
+        due.be("16 the only one", x.take(0), STATE);
+        due.be("16 of it the same is seen", x.set(0, 5), 14);
     }
 
     private static void change() {
